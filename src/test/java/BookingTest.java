@@ -73,10 +73,11 @@ public final class BookingTest {
             {0, 1, 50, 0, 1}, {0, 1, 0, -1, 1}, {0, 1, 0, 10, 1}, {0, 1, 0, 0, 0}, {0, 1, 0, 0, 1000},
             {Integer.MIN_VALUE, 1, 0, 0, 1}, {0, Integer.MAX_VALUE, 0, 0, 1}, {0, 1, 0, 0, Integer.MIN_VALUE},
         };
-        for (int[] w : wrong) {
-            check.refusesUnchanged("bind" + Arrays.toString(w), Check.ARGUMENT, x,
-                    () -> x.bind(w[0], w[1], w[2], w[3], w[4]));
-        }
+        check.unchanged("wrong calls of bind", x, () -> {
+            for (int[] w : wrong) {
+                check.refuses("bind" + Arrays.toString(w), Check.ARGUMENT, () -> x.bind(w[0], w[1], w[2], w[3], w[4]));
+            }
+        });
         check.answers("the plan is still open", 2, () -> x.row(0, 0, 0, 0, 1));
     }
 
@@ -111,16 +112,18 @@ public final class BookingTest {
         x.bind(10, 100, 24, 3, 100);
         int[][] none = {{1, 50, 0, 0}, {-1, 50, 0, 0}, {0, 50, 3, 1}, {0, 50, -1, 1}, {6, -1, 9, -1},
             {Integer.MAX_VALUE, 50, 0, 0}, {0, 50, Integer.MIN_VALUE, 0}, {0, 9, 3, 1}};
-        for (int[] w : none) {
-            check.refusesUnchanged("change" + Arrays.toString(w), Check.NONE, x,
-                    () -> x.change(w[0], w[1], w[2], w[3]));
-        }
+        check.unchanged("wrong calls of change", x, () -> {
+            for (int[] w : none) {
+                check.refuses("change" + Arrays.toString(w), Check.NONE, () -> x.change(w[0], w[1], w[2], w[3]));
+            }
+        });
         int[][] wrong = {{0, 9, 0, 0}, {0, 110, 0, 0}, {0, 50, 0, -1}, {0, 50, 0, 50}, {0, 50, 1, -1},
             {0, 50, 1, 10}, {0, 50, 2, 0}, {0, 50, 2, 1000}, {0, -1, 0, 0}, {0, Integer.MAX_VALUE, 0, 0}};
-        for (int[] w : wrong) {
-            check.refusesUnchanged("change" + Arrays.toString(w), Check.ARGUMENT, x,
-                    () -> x.change(w[0], w[1], w[2], w[3]));
-        }
+        check.unchanged("wrong calls of change", x, () -> {
+            for (int[] w : wrong) {
+                check.refuses("change" + Arrays.toString(w), Check.ARGUMENT, () -> x.change(w[0], w[1], w[2], w[3]));
+            }
+        });
         check.answers("first day, least values", 1, () -> x.change(0, 10, 0, 0));
         check.answers("last day, greatest values", 2, () -> x.change(0, 109, 2, 999));
         check.answers("last zone", 3, () -> x.change(0, 109, 1, 9));

@@ -36,10 +36,14 @@ final class Check {
         }
     }
 
-    /** As refuses, and looks whether what can be counted is as it was before. */
     void refusesUnchanged(String what, Class<? extends RuntimeException> due, CarrierBooks x, Runnable call) {
+        unchanged(what, x, () -> refuses(what, due, call));
+    }
+
+    /** Looks whether what can be counted is behind the calls as it was before them. */
+    void unchanged(String what, CarrierBooks x, Runnable calls) {
         String before = summary(x);
-        refuses(what, due, call);
+        calls.run();
         same(what + ", state behind it", before, summary(x));
     }
 

@@ -133,14 +133,18 @@ public final class ClaimTest {
         check.refuses("claim without policies", Check.NONE, () -> x.claim(0, 0, 1));
         x.bind(10, 100, 0, 0, 1);
         int[][] none = {{1, 50, 5}, {-1, 50, 5}, {6, -1, 0}, {Integer.MIN_VALUE, 0, 0}};
-        for (int[] w : none) {
-            check.refusesUnchanged("claim" + Arrays.toString(w), Check.NONE, x, () -> x.claim(w[0], w[1], w[2]));
-        }
+        check.unchanged("wrong calls of claim", x, () -> {
+            for (int[] w : none) {
+                check.refuses("claim" + Arrays.toString(w), Check.NONE, () -> x.claim(w[0], w[1], w[2]));
+            }
+        });
         int[][] wrong = {{0, -1, 5}, {0, 1000, 5}, {0, 50, 0}, {0, 50, -1}, {0, 50, 10000}, {0, 9, 0},
             {0, Integer.MIN_VALUE, 5}, {0, Integer.MAX_VALUE, 5}, {0, 50, Integer.MAX_VALUE}};
-        for (int[] w : wrong) {
-            check.refusesUnchanged("claim" + Arrays.toString(w), Check.ARGUMENT, x, () -> x.claim(w[0], w[1], w[2]));
-        }
+        check.unchanged("wrong calls of claim", x, () -> {
+            for (int[] w : wrong) {
+                check.refuses("claim" + Arrays.toString(w), Check.ARGUMENT, () -> x.claim(w[0], w[1], w[2]));
+            }
+        });
         check.runs("terms behind wrong claims", () -> x.terms(0, 9999, 9999));
         check.answers("least loss", 1, () -> x.claim(0, 50, 1));
         check.answers("greatest loss", 9998, () -> x.claim(0, 50, 9999));
@@ -167,9 +171,11 @@ public final class ClaimTest {
         x.claim(0, 3, 7);
         int[][] none = {{1, 0}, {-1, 0}, {0, 6}, {0, -1}, {20, 2}, {19, 2},
             {Integer.MAX_VALUE, 0}, {0, Integer.MIN_VALUE}, {715827883, 0}};
-        for (int[] w : none) {
-            check.refusesUnchanged("settled" + Arrays.toString(w), Check.NONE, x, () -> x.settled(w[0], w[1]));
-        }
+        check.unchanged("wrong calls of settled", x, () -> {
+            for (int[] w : none) {
+                check.refuses("settled" + Arrays.toString(w), Check.NONE, () -> x.settled(w[0], w[1]));
+            }
+        });
         settled(x, 0, 0, 3, 7, 0, 0, 0);
     }
 }

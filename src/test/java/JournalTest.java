@@ -28,9 +28,11 @@ public final class JournalTest {
         check.posted("second", x, 1, 3, 2, 5);
         int[][] none = {{2, 0}, {-1, 0}, {0, 3}, {0, -1}, {1, 3}, {89, 0}, {90, 0},
             {Integer.MAX_VALUE, 0}, {0, Integer.MIN_VALUE}, {Integer.MIN_VALUE, 2}};
-        for (int[] w : none) {
-            check.refusesUnchanged("posting" + Arrays.toString(w), Check.NONE, x, () -> x.posting(w[0], w[1]));
-        }
+        check.unchanged("wrong calls of posting", x, () -> {
+            for (int[] w : none) {
+                check.refuses("posting" + Arrays.toString(w), Check.NONE, () -> x.posting(w[0], w[1]));
+            }
+        });
     }
 
     private static void balanceRefusals() {

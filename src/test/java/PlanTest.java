@@ -1,3 +1,5 @@
+import java.util.Arrays;
+
 /** Promises 2 to 4: row, undo, witness. */
 public final class PlanTest {
     private static final Check check = new Check();
@@ -44,10 +46,11 @@ public final class PlanTest {
             {0, 49, Integer.MIN_VALUE, 9, 1}, {0, 49, 0, Integer.MAX_VALUE, 1},
             {0, 49, 0, 9, Integer.MIN_VALUE}, {0, 49, 0, 9, Integer.MAX_VALUE},
         };
-        for (int[] w : wrong) {
-            check.refusesUnchanged("row" + java.util.Arrays.toString(w), Check.ARGUMENT, x,
-                    () -> x.row(w[0], w[1], w[2], w[3], w[4]));
-        }
+        check.unchanged("wrong calls of row", x, () -> {
+            for (int[] w : wrong) {
+                check.refuses("row" + Arrays.toString(w), Check.ARGUMENT, () -> x.row(w[0], w[1], w[2], w[3], w[4]));
+            }
+        });
         check.answers("row behind wrong ones", 0, () -> x.row(0, 49, 0, 9, 1));
     }
 

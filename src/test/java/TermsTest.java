@@ -34,9 +34,11 @@ public final class TermsTest {
     private static void quotaRefusals() {
         CarrierBooks x = flat(10);
         x.quota(50);
-        for (int q : new int[] {-1, 91, Integer.MIN_VALUE, Integer.MAX_VALUE}) {
-            check.refusesUnchanged("quota(" + q + ")", Check.ARGUMENT, x, () -> x.quota(q));
-        }
+        check.unchanged("wrong calls of quota", x, () -> {
+            for (int q : new int[] {-1, 91, Integer.MIN_VALUE, Integer.MAX_VALUE}) {
+                check.refuses("quota(" + q + ")", Check.ARGUMENT, () -> x.quota(q));
+            }
+        });
         x.bind(0, 10, 0, 0, 100);
         check.posted("the quota before the wrong ones", x, 1, 3, 2, 5);
         check.refusesUnchanged("quota with a policy", Check.STATE, x, () -> x.quota(10));
@@ -67,9 +69,11 @@ public final class TermsTest {
             {-1, 1, 1}, {1000, 1, 1}, {0, 0, 1}, {0, 10000, 1}, {0, 1, 0}, {0, 1, 10000},
             {Integer.MIN_VALUE, 1, 1}, {0, Integer.MAX_VALUE, 1}, {0, 1, Integer.MIN_VALUE},
         };
-        for (int[] w : wrong) {
-            check.refusesUnchanged("terms" + Arrays.toString(w), Check.ARGUMENT, x, () -> x.terms(w[0], w[1], w[2]));
-        }
+        check.unchanged("wrong calls of terms", x, () -> {
+            for (int[] w : wrong) {
+                check.refuses("terms" + Arrays.toString(w), Check.ARGUMENT, () -> x.terms(w[0], w[1], w[2]));
+            }
+        });
         check.answers("the terms before the wrong ones", 50, () -> x.claim(0, 0, 61));
         check.refusesUnchanged("terms with a claim", Check.STATE, x, () -> x.terms(0, 9999, 9999));
         check.refuses("wrong terms with a claim", Check.STATE, () -> x.terms(-1, 0, 0));
@@ -99,10 +103,11 @@ public final class TermsTest {
             {Integer.MAX_VALUE, 0, 0, 0}, {0, Integer.MIN_VALUE, 0, 0},
             {0, 0, Integer.MAX_VALUE, 0}, {0, 0, 0, Integer.MIN_VALUE},
         };
-        for (int[] w : wrong) {
-            check.refusesUnchanged("layer" + Arrays.toString(w), Check.ARGUMENT, x,
-                    () -> x.layer(w[0], w[1], w[2], w[3]));
-        }
+        check.unchanged("wrong calls of layer", x, () -> {
+            for (int[] w : wrong) {
+                check.refuses("layer" + Arrays.toString(w), Check.ARGUMENT, () -> x.layer(w[0], w[1], w[2], w[3]));
+            }
+        });
         x.claim(0, 0, 200);
         check.answers("the layer before the wrong ones", 40, () -> x.settled(0, 4));
         check.answers("its price", 12, () -> x.posting(3, 2));
