@@ -7,11 +7,11 @@ final class Check {
 
     private int wrong;
 
-    interface Call {
+    interface Asked {
         int answer();
     }
 
-    void answers(String what, int due, Call call) {
+    void answers(String what, int due, Asked call) {
         try {
             same(what, String.valueOf(due), String.valueOf(call.answer()));
         } catch (RuntimeException e) {

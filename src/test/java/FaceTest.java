@@ -60,14 +60,9 @@ public final class FaceTest {
         }
         text.append(')');
         for (Class<?> kind : m.getExceptionTypes()) {
-            text.append(' ').append(shortName(kind));
+            text.append(' ').append(Call.shortName(kind));
         }
         return text.toString();
-    }
-
-    private static String shortName(Class<?> kind) {
-        return kind == Check.STATE ? "ISE" : kind == Check.ARGUMENT ? "IAE"
-                : kind == Check.UNSUPPORTED ? "UOE" : kind == Check.NONE ? "NSE" : kind.getName();
     }
 
     private static void otherMembers() {

@@ -1,4 +1,3 @@
-import java.util.Arrays;
 import java.util.Map;
 import java.util.TreeMap;
 
@@ -35,19 +34,11 @@ public final class ModelTest {
             test.run(run);
         }
         String[] due = {
-            "row IllegalStateException", "row IllegalArgumentException", "undo IllegalStateException",
-            "quota IllegalStateException", "quota IllegalArgumentException", "terms IllegalStateException",
-            "terms IllegalArgumentException", "layer IllegalStateException", "layer IllegalArgumentException",
-            "bind IllegalStateException", "bind IllegalArgumentException", "bind UnsupportedOperationException",
-            "change NoSuchElementException", "change IllegalArgumentException", "change IllegalStateException",
-            "change UnsupportedOperationException", "cancel NoSuchElementException",
-            "cancel IllegalArgumentException", "cancel IllegalStateException",
-            "cancel UnsupportedOperationException", "reinstate NoSuchElementException",
-            "reinstate IllegalArgumentException", "reinstate IllegalStateException",
-            "reinstate UnsupportedOperationException", "claim NoSuchElementException",
-            "claim IllegalArgumentException", "claim IllegalStateException", "claim UnsupportedOperationException",
-            "fact NoSuchElementException", "written NoSuchElementException", "earned NoSuchElementException",
-            "settled NoSuchElementException", "posting NoSuchElementException", "balance NoSuchElementException",
+            "row ISE", "row IAE", "undo ISE", "quota ISE", "quota IAE", "terms ISE", "terms IAE", "layer ISE",
+            "layer IAE", "bind ISE", "bind IAE", "bind UOE", "change NSE", "change IAE", "change ISE", "change UOE",
+            "cancel NSE", "cancel IAE", "cancel ISE", "cancel UOE", "reinstate NSE", "reinstate IAE",
+            "reinstate ISE", "reinstate UOE", "claim NSE", "claim IAE", "claim ISE", "claim UOE", "fact NSE",
+            "written NSE", "earned NSE", "settled NSE", "posting NSE", "balance NSE",
         };
         for (String kind : due) {
             check.same("runs that reach " + kind, "true", String.valueOf(seen.containsKey(kind)));
@@ -188,45 +179,14 @@ public final class ModelTest {
 
     private void call(String method, int... a) {
         calls++;
-        String due = answer(() -> model.call(method, a));
-        String got = answer(() -> ask(books, method, a));
+        Call call = new Call(method, a);
+        String due = call.answerOf(model);
+        String got = call.answerOf(books);
         seen.merge(method + " " + due, 1, Integer::sum);
         if (method.equals("bind") && due.length() == 1) {
             starts[Integer.parseInt(due)] = a[0];
             lengths[Integer.parseInt(due)] = Math.min(a[1], 1000 - a[0]);
         }
-        check.same(run + ", call " + calls + ": " + method + Arrays.toString(a), due, got);
-    }
-
-    private static String answer(Check.Call call) {
-        try {
-            return String.valueOf(call.answer());
-        } catch (RuntimeException e) {
-            return e.getClass().getSimpleName();
-        }
-    }
-
-    private static int ask(CarrierBooks x, String method, int[] a) {
-        switch (method) {
-            case "row": return x.row(a[0], a[1], a[2], a[3], a[4]);
-            case "undo": x.undo(); return 0;
-            case "witness": return x.witness();
-            case "quota": x.quota(a[0]); return 0;
-            case "terms": x.terms(a[0], a[1], a[2]); return 0;
-            case "layer": x.layer(a[0], a[1], a[2], a[3]); return 0;
-            case "bind": return x.bind(a[0], a[1], a[2], a[3], a[4]);
-            case "change": return x.change(a[0], a[1], a[2], a[3]);
-            case "cancel": return x.cancel(a[0], a[1], a[2] == 1);
-            case "reinstate": return x.reinstate(a[0], a[1]);
-            case "claim": return x.claim(a[0], a[1], a[2]);
-            case "count": return x.count(a[0]);
-            case "fact": return x.fact(a[0], a[1], a[2], a[3]);
-            case "written": return x.written(a[0], a[1]);
-            case "earned": return x.earned(a[0], a[1], a[2]);
-            case "settled": return x.settled(a[0], a[1]);
-            case "posting": return x.posting(a[0], a[1]);
-            case "balance": return x.balance(a[0]);
-            default: throw new AssertionError(method);
-        }
+        check.same(run + ", call " + calls + ": " + call, due, got);
     }
 }
