@@ -210,21 +210,21 @@ public final class BookingEdgesTest {
 
     private static void atMostSixPolicies() {
         sentences.holds("POLICIES have numbers 0, 1, .., at most 6.", PLAN + """
-                bind 0 10 0 0 100 = 0
-                bind 0 10 0 0 100 = 1
-                bind 0 10 0 0 100 = 2
-                bind 0 10 0 0 100 = 3
-                bind 0 10 0 0 100 = 4
+                bind 0 100 0 0 100 = 0
+                bind 0 100 0 0 100 = 1
+                bind 0 100 0 0 100 = 2
+                bind 0 100 0 0 100 = 3
+                bind 0 100 0 0 100 = 4
                 count 0 = 5
                 fact 5 0 0 99 = NSE
-                bind 0 10 0 0 100 = 5
+                bind 0 100 0 0 100 = 5
                 count 0 = 6
                 fact 5 2 0 99 = 100
-                bind 0 10 0 0 100 = ISE
+                bind 0 100 0 0 100 = ISE
                 bind 0 1 0 0 1 = ISE
                 count 0 = 6
                 cancel 5 0 plain
-                bind 0 10 0 0 100 = ISE
+                bind 0 100 0 0 100 = ISE
                 fact 6 0 0 99 = NSE
                 """);
     }
@@ -285,16 +285,16 @@ public final class BookingEdgesTest {
                 row 0 49 0 9 10
                 bind -1 0 50 10 0 = IAE
                 bind 0 1 0 0 1 = 0
-                """, PLAN + "bind 0 10 0 0 100\n".repeat(6) + """
+                """, PLAN + "bind 0 100 0 0 100\n".repeat(6) + """
                 bind -1 1 0 0 1 = ISE
                 bind 0 201 0 0 1 = ISE
                 bind 0 1 -1 0 1 = ISE
                 bind 0 1 0 -1 1 = ISE
                 bind 0 1 0 0 1000 = ISE
-                """, PLAN + "bind 0 10 0 0 100\n".repeat(5) + """
+                """, PLAN + "bind 0 100 0 0 100\n".repeat(5) + """
                 bind -1 1 0 0 1 = IAE
                 bind 0 201 0 0 1 = IAE
-                bind 0 10 0 0 100 = 5
+                bind 0 100 0 0 100 = 5
                 """, FORTY + """
                 bind 1000 1 0 0 1 = ISE
                 bind 0 0 0 0 1 = ISE
@@ -305,7 +305,7 @@ public final class BookingEdgesTest {
                 bind 1000 1 0 0 1 = IAE
                 bind 0 1 0 0 0 = IAE
                 bind 0 1 0 0 1 = 2
-                """, PLAN + "bind 0 10 0 0 100\n".repeat(6) + "change 5 0 1 1\n".repeat(34) + """
+                """, PLAN + "bind 0 100 0 0 100\n".repeat(6) + "change 5 0 1 1\n".repeat(34) + """
                 count 1 = 40
                 bind 0 1 0 0 1 = ISE
                 bind 0 1 0 0 0 = ISE

@@ -278,6 +278,15 @@ public final class PlanEdgesTest {
                 undo = ISE
                 count 4 = 1
                 witness = -1
+                """, EIGHT + """
+                bind 0 1 0 0 1
+                undo = ISE
+                count 4 = 8
+                """, "row 0 49 0 4 1\nrow 0 49 5 9 2\n" + """
+                bind 0 1 0 0 1
+                row 0 0 0 0 5 = ISE
+                undo = ISE
+                count 4 = 2
                 """);
     }
 

@@ -4,6 +4,8 @@ public final class TermsEdgesTest {
     private static final String FLAT = "row 0 49 0 9 10\n";
     /** A policy of 100 days, with a premium of 100. */
     private static final String BOUND = FLAT + "bind 0 100 0 0 100\n";
+    /** Terms that differ in each number from those that are refused. */
+    private static final String SET = BOUND + "terms 10 500 1000\nlayer 100 40 1 50\n";
 
     public static void main(String[] args) {
         quotaNumbers();
@@ -82,14 +84,15 @@ public final class TermsEdgesTest {
     }
 
     private static void deductible() {
-        sentences.holds("a DEDUCTIBLE 0 .. 999", BOUND + """
+        sentences.holds("a DEDUCTIBLE 0 .. 999", SET + """
                 terms -1 100 100 = IAE
                 terms -2 100 100 = IAE
                 terms MIN 100 100 = IAE
                 terms 1000 100 100 = IAE
                 terms 1001 100 100 = IAE
                 terms MAX 100 100 = IAE
-                claim 0 0 9999 = 9999
+                claim 0 0 11 = 1
+                claim 0 0 9999 = 500
                 """,
                 BOUND + "terms 5 1 1\nterms 0 9999 9999\nclaim 0 0 1 = 1\n",
                 BOUND + "terms 1 9999 9999\nclaim 0 0 1 = 0\nclaim 0 0 2 = 1\n",
@@ -98,14 +101,15 @@ public final class TermsEdgesTest {
     }
 
     private static void limit() {
-        sentences.holds("a LIMIT 1 .. 9999", BOUND + """
-                terms 0 0 100 = IAE
-                terms 0 -1 100 = IAE
-                terms 0 MIN 100 = IAE
-                terms 0 10000 100 = IAE
-                terms 0 10001 100 = IAE
-                terms 0 MAX 100 = IAE
-                claim 0 0 9999 = 9999
+        sentences.holds("a LIMIT 1 .. 9999", SET + """
+                terms 7 0 100 = IAE
+                terms 7 -1 100 = IAE
+                terms 7 MIN 100 = IAE
+                terms 7 10000 100 = IAE
+                terms 7 10001 100 = IAE
+                terms 7 MAX 100 = IAE
+                claim 0 0 11 = 1
+                claim 0 0 9999 = 500
                 """,
                 BOUND + "terms 0 1 9999\nclaim 0 0 9999 = 1\nclaim 0 0 1 = 1\n",
                 BOUND + "terms 0 2 9999\nclaim 0 0 9999 = 2\nclaim 0 0 1 = 1\n",
@@ -114,14 +118,16 @@ public final class TermsEdgesTest {
     }
 
     private static void aggregate() {
-        sentences.holds("an AGGREGATE 1 .. 9999", BOUND + """
-                terms 0 100 0 = IAE
-                terms 0 100 -1 = IAE
-                terms 0 100 MIN = IAE
-                terms 0 100 10000 = IAE
-                terms 0 100 10001 = IAE
-                terms 0 100 MAX = IAE
-                claim 0 0 9999 = 9999
+        sentences.holds("an AGGREGATE 1 .. 9999", SET + """
+                terms 7 100 0 = IAE
+                terms 7 100 -1 = IAE
+                terms 7 100 MIN = IAE
+                terms 7 100 10000 = IAE
+                terms 7 100 10001 = IAE
+                terms 7 100 MAX = IAE
+                claim 0 0 9999 = 500
+                claim 0 0 9999 = 500
+                claim 0 0 9999 = 0
                 """,
                 BOUND + "terms 0 9999 1\nclaim 0 0 9999 = 1\nclaim 0 0 9999 = 0\n",
                 BOUND + "terms 0 9999 2\nclaim 0 0 1 = 1\nclaim 0 0 9999 = 1\nclaim 0 0 9999 = 0\n",
@@ -165,15 +171,20 @@ public final class TermsEdgesTest {
     }
 
     private static void retention() {
-        sentences.holds("a RETENTION 0 .. 9999", BOUND + """
-                layer -1 100 1 10 = IAE
-                layer -2 100 1 10 = IAE
-                layer MIN 100 1 10 = IAE
-                layer 10000 100 1 10 = IAE
-                layer 10001 100 1 10 = IAE
-                layer MAX 100 1 10 = IAE
-                claim 0 0 9999
-                settled 0 4 = 0
+        sentences.holds("a RETENTION 0 .. 9999", SET + """
+                layer -1 30 2 10 = IAE
+                layer -2 30 2 10 = IAE
+                layer MIN 30 2 10 = IAE
+                layer 10000 30 2 10 = IAE
+                layer 10001 30 2 10 = IAE
+                layer MAX 30 2 10 = IAE
+                claim 0 0 510 = 500
+                settled 0 4 = 40
+                settled 0 5 = 40
+                posting 3 2 = 20
+                claim 0 0 9999 = 500
+                settled 1 4 = 40
+                settled 1 5 = 0
                 """,
                 BOUND + "layer 9 9999 0 0\nlayer 0 9999 0 0\nclaim 0 0 1\nsettled 0 4 = 1\n",
                 BOUND + "layer 1 9999 0 0\nclaim 0 0 1\nsettled 0 4 = 0\nclaim 0 0 2\nsettled 1 4 = 1\n",
@@ -182,15 +193,20 @@ public final class TermsEdgesTest {
     }
 
     private static void layer() {
-        sentences.holds("a LAYER 0 .. 9999", BOUND + """
-                layer 0 -1 1 10 = IAE
-                layer 0 -2 1 10 = IAE
-                layer 0 MIN 1 10 = IAE
-                layer 0 10000 1 10 = IAE
-                layer 0 10001 1 10 = IAE
-                layer 0 MAX 1 10 = IAE
-                claim 0 0 9999
-                settled 0 4 = 0
+        sentences.holds("a LAYER 0 .. 9999", SET + """
+                layer 70 -1 2 10 = IAE
+                layer 70 -2 2 10 = IAE
+                layer 70 MIN 2 10 = IAE
+                layer 70 10000 2 10 = IAE
+                layer 70 10001 2 10 = IAE
+                layer 70 MAX 2 10 = IAE
+                claim 0 0 510 = 500
+                settled 0 4 = 40
+                settled 0 5 = 40
+                posting 3 2 = 20
+                claim 0 0 9999 = 500
+                settled 1 4 = 40
+                settled 1 5 = 0
                 """,
                 BOUND + "layer 0 5 3 0\nlayer 0 0 3 99\nclaim 0 0 9999\nsettled 0 4 = 0\nsettled 0 5 = 0\n",
                 BOUND + "layer 0 1 3 99\nclaim 0 0 9998\nsettled 0 4 = 1\nclaim 0 0 1\nsettled 1 4 = 1\n",
@@ -199,15 +215,20 @@ public final class TermsEdgesTest {
     }
 
     private static void times() {
-        sentences.holds("TIMES 0 .. 3", BOUND + """
-                layer 0 100 -1 10 = IAE
-                layer 0 100 -2 10 = IAE
-                layer 0 100 MIN 10 = IAE
-                layer 0 100 4 10 = IAE
-                layer 0 100 5 10 = IAE
-                layer 0 100 MAX 10 = IAE
-                claim 0 0 9999
-                settled 0 4 = 0
+        sentences.holds("TIMES 0 .. 3", SET + """
+                layer 70 30 -1 10 = IAE
+                layer 70 30 -2 10 = IAE
+                layer 70 30 MIN 10 = IAE
+                layer 70 30 4 10 = IAE
+                layer 70 30 5 10 = IAE
+                layer 70 30 MAX 10 = IAE
+                claim 0 0 510 = 500
+                settled 0 4 = 40
+                settled 0 5 = 40
+                posting 3 2 = 20
+                claim 0 0 9999 = 500
+                settled 1 4 = 40
+                settled 1 5 = 0
                 """,
                 BOUND + "layer 0 7 2 0\nlayer 0 7 0 0\n" + partsOfNine("7 0 0 0 0"),
                 BOUND + "layer 0 7 1 0\n" + partsOfNine("7 7 0 0 0"),
@@ -226,15 +247,20 @@ public final class TermsEdgesTest {
     }
 
     private static void price() {
-        sentences.holds("a PRICE 0 .. 99 (at first 0)", BOUND + """
-                layer 0 100 1 -1 = IAE
-                layer 0 100 1 -2 = IAE
-                layer 0 100 1 MIN = IAE
-                layer 0 100 1 100 = IAE
-                layer 0 100 1 101 = IAE
-                layer 0 100 1 MAX = IAE
-                claim 0 0 9999
-                settled 0 4 = 0
+        sentences.holds("a PRICE 0 .. 99 (at first 0)", SET + """
+                layer 70 30 2 -1 = IAE
+                layer 70 30 2 -2 = IAE
+                layer 70 30 2 MIN = IAE
+                layer 70 30 2 100 = IAE
+                layer 70 30 2 101 = IAE
+                layer 70 30 2 MAX = IAE
+                claim 0 0 510 = 500
+                settled 0 4 = 40
+                settled 0 5 = 40
+                posting 3 2 = 20
+                claim 0 0 9999 = 500
+                settled 1 4 = 40
+                settled 1 5 = 0
                 """,
                 BOUND + "layer 0 100 1 9\nlayer 0 100 1 0\nclaim 0 0 100\ncount 3 = 3\nbalance 2 = 0\n",
                 BOUND + "layer 0 100 1 1\nclaim 0 0 100\ncount 3 = 4\nposting 3 2 = 1\n",

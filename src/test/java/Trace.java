@@ -10,7 +10,7 @@ final class Trace {
     private static final int[] DAYS = {0, 9, 10, 50, 60, 98, 99, 100, 109, 110, 998, 999};
     private static final List<List<Call>> LOOKS = List.of(
             postings(), settled(), facts(), byBooking(), planGoesOn(), policiesGoOn(), claimsGoOn(),
-            bookingsGoOn(), termsGoOn());
+            lossesGrow(), bookingsGoOn(), termsGoOn());
 
     private Trace() {
     }
@@ -101,6 +101,17 @@ final class Trace {
         StringBuilder text = new StringBuilder("bind 10 100 5 5 500\n");
         for (int policy = 0; policy < 6; policy++) {
             text.append("claim " + policy + " 50 700\nclaim " + policy + " 50 9999\nclaim " + policy + " 50 30\n");
+        }
+        ask(text, "settled", 20, 5);
+        askTotals(text);
+        return Call.all(text.toString());
+    }
+
+    /** Losses of all sizes, so that a change of any of the terms shows. */
+    private static List<Call> lossesGrow() {
+        StringBuilder text = new StringBuilder("bind 10 100 5 5 500\n");
+        for (int loss = 9; loss <= 9999; loss += 1 + loss / 3) {
+            text.append("claim 0 50 " + loss + "\n");
         }
         ask(text, "settled", 20, 5);
         askTotals(text);
