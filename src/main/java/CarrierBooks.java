@@ -50,7 +50,7 @@ public final class CarrierBooks {
 
     public CarrierBooks() {
         plan = new Plan();
-        register = new Register(plan);
+        register = new Register();
         settlements = new Settlements();
         journal = new Journal();
     }
@@ -214,7 +214,7 @@ public final class CarrierBooks {
             return -1;
         }
         return fact == CHARGE
-                ? register.chargeOn(policy, day, counted)
+                ? register.chargeOn(plan, policy, day, counted)
                 : register.valueOn(policy, fact, day, counted);
     }
 
@@ -222,14 +222,14 @@ public final class CarrierBooks {
         if (!isPolicy(policy)) {
             throw new NoSuchElementException();
         }
-        return register.premiumBefore(policy, DAYS, register.countedAsOf(b));
+        return register.premiumBefore(plan, policy, DAYS, register.countedAsOf(b));
     }
 
     public int earned(int policy, int day, int b) throws NoSuchElementException {
         if (!isPolicy(policy)) {
             throw new NoSuchElementException();
         }
-        return register.premiumBefore(policy, day, register.countedAsOf(b));
+        return register.premiumBefore(plan, policy, day, register.countedAsOf(b));
     }
 
     public int settled(int k, int what) throws NoSuchElementException {
@@ -275,8 +275,8 @@ public final class CarrierBooks {
     /** Posts for the booking in pencil; it counts only when this has not thrown. */
     private void postPremium(int policy, boolean isShort) {
         int before = register.bookings;
-        int difference = register.premiumBefore(policy, DAYS, before + 1)
-                - register.premiumBefore(policy, DAYS, before);
+        int difference = register.premiumBefore(plan, policy, DAYS, before + 1)
+                - register.premiumBefore(plan, policy, DAYS, before);
         int ceded = percentOf(difference, quotaPercent);
         int fee = isShort && difference < 0 ? -difference / 10 : 0;
         if (!journal.hasRoomFor(difference, ceded, fee)) {
@@ -389,7 +389,6 @@ public final class CarrierBooks {
      * COUNTED is the number of bookings that count, from the first one on.
      */
     private static final class Register {
-        private final Plan plan;
         private final int[] start = new int[MAX_POLICIES];
         private final int[] end = new int[MAX_POLICIES];
         private final int[] boundBy = new int[MAX_POLICIES];
@@ -400,10 +399,6 @@ public final class CarrierBooks {
         private final int[] factOf = new int[MAX_BOOKINGS];
         private final int[] valueOf = new int[MAX_BOOKINGS];
         private int bookings;
-
-        private Register(Plan plan) {
-            this.plan = plan;
-        }
 
         private boolean isFull() {
             return bookings == MAX_BOOKINGS;
@@ -467,7 +462,7 @@ public final class CarrierBooks {
             return value;
         }
 
-        private int chargeOn(int policy, int day, int counted) {
+        private int chargeOn(Plan plan, int policy, int day, int counted) {
             if (valueOn(policy, FORCE, day, counted) == 0) {
                 return 0;
             }
@@ -476,7 +471,7 @@ public final class CarrierBooks {
             return valueOn(policy, SUM, day, counted) * plan.rateOf(age, zone);
         }
 
-        private int premiumBefore(int policy, int day, int counted) {
+        private int premiumBefore(Plan plan, int policy, int day, int counted) {
             if (!isBound(policy, counted)) {
                 return 0;
             }
@@ -487,7 +482,7 @@ public final class CarrierBooks {
             // days with one charge than bookings.
             for (int span = 0; span < counted && from < last; span++) {
                 int to = Math.min(nextToldDay(policy, from, counted), last);
-                charges += (to - from) * chargeOn(policy, from, counted);
+                charges += (to - from) * chargeOn(plan, policy, from, counted);
                 from = to;
             }
             return charges / 1000;
